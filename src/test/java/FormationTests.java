@@ -49,6 +49,18 @@ final class FormationTests {
         for (int basket = 0; basket < due.length; basket++) {
             Check.is(37, "formationOf " + basket, flock.formationOf(basket), due[basket]);
         }
+        Check.is(37, "formationOf before anything else", Flocks.at(0, 0, 5, 5, 7, 5).formationOf(2), 1);
+        Check.is(36, "largestFormation before anything else", Flocks.at(0, 0, 5, 5, 7, 5).largestFormation(), 2);
+        BasketFlock parted = Flocks.at(0, 0, 4, 0, 2, 0);
+        Check.is(35, "merged by the last one", parted.formationCountByMerging(), 1);
+        parted.jump(2, 11, 11);
+        parted.jump(0, 2, 0);
+        Check.is(35, "linked another way", parted.formationCountByMerging(), 2);
+        parted.jump(0, 0, 11);
+        parted.jump(2, 2, 0);
+        Check.is(35, "parted again", parted.formationCountByMerging(), 2);
+        parted.jump(2, 11, 11);
+        Check.is(35, "each on its own", parted.formationCountByMerging(), 3);
         // Two groups of two that the last basket merges, told by its lowest basket.
         BasketFlock merged = Flocks.at(6, 6, 0, 6, 8, 6, 2, 6, 4, 6);
         merged.setKeep(2);
@@ -120,6 +132,11 @@ final class FormationTests {
     }
 
     private static void sameShapes() {
+        BasketFlock single = Flocks.at(3, 4);
+        single.advance(2);
+        Check.is(40, "the shape of a single basket is remembered", single.shapeCount(), 2);
+        single.jump(0, 11, 0);
+        Check.is(42, "a single basket has one shape everywhere", single.stepsSinceShape(), 0);
         BasketFlock moved = Flocks.at(0, 0, 1, 2);
         moved.advance(1);
         moved.jump(1, 11, 11);
@@ -133,21 +150,34 @@ final class FormationTests {
         Check.fails(42, "a turned shape is another", NoSuchElementException.class, moved::stepsSinceShape);
 
         // Shapes may reach from the first cell of the sky to the last one.
-        lastCellCounts(Flocks.at(0, 0, 11, 10), 11, 11);
-        lastCellCounts(Flocks.at(0, 0, 10, 11), 11, 11);
-        lastCellCounts(Flocks.at(0, 0, 11, 3), 0, 4);
-        lastCellCounts(Flocks.at(0, 0, 11, 7), 0, 8);
+        firstCellCounts(2, 0);
+        firstCellCounts(2, 4);
+        firstCellCounts(4, 8);
+        lastCellCounts(11, 10, 11, 11);
+        lastCellCounts(10, 11, 11, 11);
+        lastCellCounts(11, 11, 11, 10);
+        lastCellCounts(11, 3, 0, 4);
+        lastCellCounts(11, 7, 0, 8);
     }
 
-    private static void lastCellCounts(BasketFlock flock, int x, int y) {
+    private static void firstCellCounts(int y, int addedY) {
+        BasketFlock flock = Flocks.at(2, 0, 0, y);
         flock.setKeep(6);
         flock.advance(1);
-        flock.undo();
-        flock.addCloud(5, 0);
+        Check.is(42, "the shape of both", flock.stepsSinceShape(), 0);
+        flock.addBasket(0, addedY, 0);
+        Check.fails(42, "the shape with 0," + addedY, NoSuchElementException.class, flock::stepsSinceShape);
+    }
+
+    private static void lastCellCounts(int x, int y, int otherX, int otherY) {
+        // The cloud beside each corner holds the follower where it is.
+        BasketFlock flock = Flocks.withClouds(Flocks.at(0, 0, x, y), x - 1, y, x, y - 1);
         flock.advance(1);
-        Check.is(42, "the shape after a step", flock.stepsSinceShape(), 0);
-        flock.jump(1, x, y);
-        Check.fails(42, "another cell is another shape", NoSuchElementException.class, flock::stepsSinceShape);
+        Check.is(42, "the shape to " + x + "," + y, flock.stepsSinceShape(), 0);
+        flock.removeCloud(x - 1, y);
+        flock.removeCloud(x, y - 1);
+        flock.jump(1, otherX, otherY);
+        Check.fails(42, "the shape to " + otherX + "," + otherY, NoSuchElementException.class, flock::stepsSinceShape);
     }
 
     private static void ranks() {

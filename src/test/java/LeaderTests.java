@@ -55,6 +55,11 @@ final class LeaderTests {
         BasketFlock single = Flocks.at(5, 5);
         single.advance(13);
         Check.is(20, "a single basket leads on", single.leader(), 0);
+        single.addBasket(7, 5, 0);
+        single.advance(2);
+        Check.is(20, "13 and 2 steps", single.leader(), 0);
+        single.advance(1);
+        Check.is(20, "the steps that it led alone count", single.leader(), 1);
     }
 
     private static void leaderAhead() {
@@ -67,6 +72,8 @@ final class LeaderTests {
         }
         Check.is(21, "leaderAfter 99", flock.leaderAfter(99), 1);
         Check.is(22, "leaderAfterByCounting 99", flock.leaderAfterByCounting(99), 1);
+        Check.is(21, "leaderAfter of a single basket", Flocks.at(5, 5).leaderAfter(7), 0);
+        Check.is(22, "leaderAfterByCounting of a single basket", Flocks.at(5, 5).leaderAfterByCounting(7), 0);
         BasketFlock none = new BasketFlock();
         for (int steps : new int[] {-1, 100, Integer.MIN_VALUE, Integer.MAX_VALUE}) {
             Check.fails(21, "leaderAfter " + steps, IllegalArgumentException.class, () -> flock.leaderAfter(steps));

@@ -70,6 +70,9 @@ final class LineTests {
         flock.addBasket(0, 0, 0);
         flock.addBasket(4, 0, 1);
         Check.fails(51, "mixedShare without links", ArithmeticException.class, flock::mixedShare);
+        flock.jump(1, 3, 0);
+        Check.is(51, "mixedShare of a single link", flock.mixedShare(), 1f);
+        flock.jump(1, 4, 0);
         flock.addBasket(2, 0, 0);
         Check.is(51, "mixedShare of a half", flock.mixedShare(), 0.5f);
         flock.setKeep(4);

@@ -57,9 +57,13 @@ final class StepTests {
     }
 
     private static void step(String what, String due, BasketFlock flock, int x, int y) {
+        String before = Flocks.cells(flock);
         flock.setTarget(x, y);
-        flock.advance(1);
+        int moves = flock.advance(1);
         Check.is(29, what, Flocks.cells(flock), due);
+        Check.is(29, "the number of moves, " + what, moves, due.equals(before) ? 0 : 1);
+        Check.is(31, "movesOf the leader, " + what, flock.movesOf(0), moves);
+        Check.is(32, "moveTotal, " + what, flock.moveTotal(), (long) moves);
     }
 
     private static void leaderDetours() {
@@ -93,7 +97,10 @@ final class StepTests {
     }
 
     private static void near(String what, int x, int y, int otherX, int otherY, String due) {
-        BasketFlock flock = Flocks.at(x, y, otherX, otherY);
+        near(what, Flocks.at(x, y, otherX, otherY), due);
+    }
+
+    private static void near(String what, BasketFlock flock, String due) {
         flock.advance(1);
         Check.is(29, what, Flocks.cells(flock), due);
     }
@@ -129,6 +136,10 @@ final class StepTests {
         Check.is(29, "nowhere to go", waiting.advance(2), 0);
         Check.is(33, "waited twice", waiting.waitTotal(), 2);
         Check.is(29, "nearer cells only", Flocks.cells(waiting), "5,5 3,3");
+        near("no way from above but past the cloud", Flocks.withClouds(Flocks.at(5, 5, 5, 9), 5, 8), "5,5 5,9");
+        near("no way from below but past the cloud", Flocks.withClouds(Flocks.at(5, 5, 5, 1), 5, 2), "5,5 5,1");
+        near("no way from the right but past the cloud", Flocks.withClouds(Flocks.at(5, 5, 9, 5), 8, 5), "5,5 9,5");
+        near("no way from the left but past the cloud", Flocks.withClouds(Flocks.at(5, 5, 1, 5), 2, 5), "5,5 1,5");
     }
 
     private static void counts() {
