@@ -1,5 +1,3 @@
-import java.util.NoSuchElementException;
-
 /** Makes flocks for the tests. */
 final class Flocks {
     private Flocks() {
@@ -77,18 +75,45 @@ final class Flocks {
     }
 
     private static String target(BasketFlock flock) {
-        try {
-            return flock.targetX() + "," + flock.targetY();
-        } catch (NoSuchElementException none) {
-            return "none";
-        }
+        return outcome(() -> flock.targetX() + "," + flock.targetY());
     }
 
     private static String sinceShape(BasketFlock flock) {
+        return outcome(flock::stepsSinceShape);
+    }
+
+    /** Also what changes do not change; the command text and the changes that can be undone cannot be read. */
+    static String everything(BasketFlock flock) {
+        StringBuilder all = new StringBuilder(describe(flock));
+        all.append(" refusal ").append(outcome(flock::refusalReason)).append(' ').append(outcome(flock::refusalDetail));
+        all.append(" error ").append(outcome(flock::errorPosition));
+        all.append(" failed ").append(outcome(flock::failedCommand));
+        all.append(" line ");
+        for (int index = 0; index < 12; index++) {
+            int at = index;
+            all.append(outcome(() -> flock.lineAt(at)));
+        }
+        return all.toString();
+    }
+
+    /** Undoes everything, completes and runs the command text, and restores: so it is seen what they were. */
+    static String aftermath(BasketFlock flock) {
+        StringBuilder all = new StringBuilder();
+        for (int undos = 0; undos < 9; undos++) {
+            all.append(" undo ").append(outcome(flock::undo)).append(' ').append(describe(flock));
+        }
+        all.append(" append ").append(outcome(() -> flock.append('6')));
+        all.append(" run ").append(outcome(flock::run)).append(' ').append(everything(flock));
+        all.append(" restore ").append(outcome(flock::restore)).append(' ').append(describe(flock));
+        return all.toString();
+    }
+
+    /** The answer, or the exception that was thrown instead. */
+    static String outcome(Check.Call call) {
         try {
-            return Integer.toString(flock.stepsSinceShape());
-        } catch (NoSuchElementException none) {
-            return "never";
+            return String.valueOf(call.answer());
+        } catch (RuntimeException thrown) {
+            return "throws." + thrown.getClass().getSimpleName();
         }
     }
 }
