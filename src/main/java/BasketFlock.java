@@ -1270,11 +1270,13 @@ public final class BasketFlock {
         /** Returns the error position, or NOTHING if the text is a command text. */
         int parse() {
             position = 0;
+            commands = 0;
             boolean more = true;
-            for (commands = 0; more && commands < MOST_COMMANDS; commands++) {
-                if (!parseCommand(commands)) {
+            for (int command = 0; more && command < MOST_COMMANDS; command++) {
+                if (!parseCommand(command)) {
                     return position;
                 }
+                commands++;
                 more = position < length && characters[position] == ';';
                 if (more) {
                     position++;

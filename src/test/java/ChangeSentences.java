@@ -348,7 +348,10 @@ final class ChangeSentences extends SentenceTests {
 
     private static void runsThatFail() {
         String before = Flocks.describe(rich());
-        String line = Flocks.line(rich(), 9);
+        BasketFlock twin = rich();
+        twin.undo();
+        String undone = Flocks.describe(twin);
+        String line = Flocks.line(twin, 9);
         BasketFlock wrong = rich();
         fails(ARGUMENT, "a wrong text", wrong::run);
         is("its error position is set", wrong.errorPosition(), 5);
@@ -363,6 +366,7 @@ final class ChangeSentences extends SentenceTests {
             is("the line is left", flock.lineAt(9), line.charAt(9));
             is("nothing else changes", Flocks.describe(flock), before);
             is("no change", flock.undo(), 7);
+            is("the latest change is undone", Flocks.describe(flock), undone);
             is("the snapshot is left", flock.restore(), 10);
             is("the saved steps", flock.stepCount(), 7);
         }

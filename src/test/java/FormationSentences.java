@@ -55,6 +55,11 @@ final class FormationSentences extends SentenceTests {
             is("a ring", keeping(3, 0, 0, 3, 0, 0, 3, 3, 3).formationCountByMerging(), 1);
             is("two groups that the last basket merges",
                     keeping(2, 6, 6, 0, 6, 8, 6, 2, 6, 4, 6).formationCountByMerging(), 1);
+            BasketFlock again = keeping(2, 0, 0, 4, 0, 2, 0);
+            is("merged by the last one", again.formationCountByMerging(), 1);
+            again.jump(2, 11, 11);
+            again.jump(0, 2, 0);
+            is("counted anew without the last one", again.formationCountByMerging(), 2);
             for (int keep = 2; keep <= 6; keep++) {
                 for (int basket = 0; basket < 10; basket++) {
                     BasketFlock apart = keeping(keep, THREE_APART);

@@ -146,6 +146,11 @@ final class LineSentences extends SentenceTests {
         return flock.isConsistent();
     }
 
+    private static void led(BasketFlock flock, int steps, int turn) {
+        Inside.set(flock, "led", steps);
+        Inside.set(flock, "turn", turn);
+    }
+
     private static void isConsistent() {
         test(52, "Checks the invariants", () -> {
             is("nothing broken", consistentAfter(flock -> flock.setKeep(2)), true);
@@ -156,13 +161,23 @@ final class LineSentences extends SentenceTests {
                 Inside.set(flock, "xs", 1, 1);
                 Inside.set(flock, "ys", 1, 1);
             }), false);
+            is("the first basket in a cloud", consistentAfter(flock -> {
+                Inside.set(flock, "xs", 0, 1);
+                Inside.set(flock, "ys", 0, 1);
+            }), false);
             is("a handle that the other way of counting does not know", consistentAfter(flock -> {
                 Inside.set(flock, "handles", 0, 7);
                 Inside.set(flock, "handles", 1, 7);
             }), false);
             is("a leader that there is not", consistentAfter(flock -> Inside.set(flock, "leading", 5)), false);
             // The formula counts turns that have passed already, and counting does not.
-            is("led for too long", consistentAfter(flock -> Inside.set(flock, "led", 9)), false);
+            is("led for too long", consistentAfter(flock -> led(flock, 9, 4)), false);
+            is("leaders that differ after 0 steps only", consistentAfter(flock -> led(flock, 25, 25)), false);
+            // Beyond the greatest number the formula goes on with the least one.
+            is("leaders that differ from 20 steps on",
+                    consistentAfter(flock -> led(flock, Integer.MAX_VALUE - 19, Integer.MAX_VALUE)), false);
+            is("leaders that differ from 21 steps on",
+                    consistentAfter(flock -> led(flock, Integer.MAX_VALUE - 20, Integer.MAX_VALUE)), true);
         });
         test(52, "Returns whether all of them hold.", () -> {
             is("a new object", new BasketFlock().isConsistent(), true);

@@ -232,9 +232,11 @@ final class StepSentences extends SentenceTests {
             still.setTarget(5, 5);
             still.advance(1);
             is("on the target nobody waits", still.waitTotal(), 0);
-            still.jump(1, 9, 5);
-            still.advance(1);
-            is("who moves does not wait", still.waitTotal(), 0);
+            BasketFlock moving = Flocks.at(5, 5, 9, 5);
+            moving.setTarget(4, 5);
+            moving.advance(1);
+            is("both move", Flocks.cells(moving), "4,5 8,5");
+            is("who moves does not wait", moving.waitTotal(), 0);
             BasketFlock detour = Flocks.withClouds(Flocks.at(0, 0), 1, 0);
             detour.setTarget(3, 3);
             detour.advance(1);

@@ -302,7 +302,12 @@ final class TermSentences extends SentenceTests {
         test(0, "In one step, the following things happen in this order.", () -> {
             BasketFlock flock = Flocks.at(3, 0, 0, 0);
             is("the leader before the others", afterStepTo(flock, 9, 0), "4,0 1,0");
-            is("the shape after the others", flock.stepsSinceShape(), 0);
+            BasketFlock nearing = Flocks.at(0, 0, 8, 0);
+            is("another one moves", afterStep(nearing), "0,0 7,0");
+            is("the shape after the others", nearing.stepsSinceShape(), 0);
+            BasketFlock leading = Flocks.at(0, 0, 0, 2);
+            is("the leader moves", afterStepTo(leading, 1, 0), "1,0 0,2");
+            is("the shape after the leader", leading.stepsSinceShape(), 0);
             BasketFlock passing = Flocks.at(0, 0, 8, 0);
             passing.setTarget(4, 0);
             passing.setTurnLength(2);
@@ -569,6 +574,13 @@ final class TermSentences extends SentenceTests {
             waiting.setTarget(2, 0);
             waiting.advance(4);
             is("a leader that waits leads too", waiting.leader(), 1);
+            BasketFlock alone = Flocks.at(5, 5);
+            alone.advance(1);
+            alone.addBasket(7, 5, 0);
+            alone.advance(2);
+            is("one step led alone, two with another one", alone.leader(), 0);
+            alone.advance(1);
+            is("one step led alone, three with another one", alone.leader(), 1);
         });
     }
 
