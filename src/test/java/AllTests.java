@@ -2,7 +2,7 @@ import java.io.IOException;
 import java.nio.file.Files;
 import java.nio.file.Path;
 
-/** Runs every test of the project; the arguments are the paths of BasketFlock.java and of the document. */
+/** Runs every test of the project; the arguments are the paths of BasketFlock.java, the document and README.md. */
 public final class AllTests {
     public static void main(String[] arguments) throws IOException {
         BasketTests.run();
@@ -16,6 +16,7 @@ public final class AllTests {
         WalkTests.run();
         FaceTests.run(Files.readString(Path.of(arguments[0])));
         sentences(Path.of(arguments[1]));
+        ReadmeTests.run(Files.readString(Path.of(arguments[2])));
         System.exit(Check.finish() ? 0 : 1);
     }
 
